@@ -71,6 +71,8 @@ public final class DeedsTest {
         grown("(1+1)*2", 6);
         grown("not 0+not 5", 3);
         grown("not not 7", 3);
+        grown("not 7", 2);
+        grown("not 0*3", 5);
         grown("2<3", 3);
         grown("3<3", 2);
         grown("3=1+2", 3);
@@ -97,6 +99,31 @@ public final class DeedsTest {
         eased("jealous", 5);
         eased("years-25", 4);
         eased("known", 8);
+        bothLaws("grows 1;eases 3;");
+        bothLaws("eases 3;grows 1;");
+        lawsOfTheLast();
+    }
+
+    private static void bothLaws(String laws) {
+        VoteAgainst x = Check.told(THREE + laws + "grudge b a 4;");
+        x.tax();
+        Check.due("grows of " + laws, x.grudge(1, 0), 5);
+        Check.due("eases of " + laws, x.gift(0, 1), 2);
+    }
+
+    private static void lawsOfTheLast() {
+        VoteAgainst x = Check.told(THREE + "grows 5+has;eases 5*known;");
+        Check.due("a fault within brackets", Check.republic(x, "grows 1;eases 1 + not (2 * not (3"), Check.fault(1, 33));
+        x.tax();
+        Check.due("the laws stay", x.grudge(1, 0), 5);
+        Check.due("another one", Check.republic(x, THREE + "eases 4;grudge b a 4;"), 0);
+        x.tax();
+        Check.due("it has no law of how they grow", x.grudge(1, 0), 6);
+        Check.due("it has one of how they are eased", x.gift(0, 1), 2);
+        Check.due("a third one", Check.republic(x, THREE + "grows (3);grudge b a 4;"), 0);
+        x.tax();
+        Check.due("grows", x.grudge(1, 0), 7);
+        Check.due("no law of ease", x.gift(0, 1), 5);
     }
 
     private static void gift() {

@@ -17,6 +17,7 @@ public final class ExtremesTest {
             }
         }
         deepTapes();
+        sevenPeople();
         Check.due("nothing was thrown", true, true);
         Check.end();
     }
@@ -65,6 +66,39 @@ public final class ExtremesTest {
                 x.count(b);
             }
         }
+    }
+
+    /** All that can be asked of a full republic, each of whom has a grudge against the next one. */
+    private static void sevenPeople() {
+        StringBuilder text = new StringBuilder("bar 9;");
+        for (char name = 'a'; name < 'h'; name++) {
+            text.append("person ").append(name).append(" plain age 1 envy 1;");
+        }
+        for (char name = 'a'; name < 'g'; name++) {
+            text.append("grudge ").append(name).append(' ').append((char) (name + 1)).append(" 9;");
+        }
+        VoteAgainst x = Check.told(text.append("grudge g a 9;").toString());
+        int[] counts = {7, 9, 0, 0, 0, 127, 7, 63, 0, 0, 0, 0, 0};
+        for (int what = 0; what < counts.length; what++) {
+            Check.due("of seven count(" + what + ")", x.count(what), counts[what]);
+        }
+        Check.due("of seven governs()", x.governs(), 0);
+        Check.due("of seven next(6)", x.next(6), 0);
+        Check.due("of seven bring(6)", x.bring(6), 6);
+        Check.due("of seven bears(0)", x.bears(0), 0);
+        Check.due("of seven quiets()", x.quiets(), 7);
+        Check.due("of seven should(0)", x.should(0), 1);
+        Check.due("of seven should(1)", x.should(1), 0);
+        Check.due("of seven sets(0, 1, 0)", x.sets(0, 1, 0), 31);
+        Check.due("of seven sets(0, 1, 2)", x.sets(0, 1, 2), 124);
+        Check.due("of seven ease()", x.ease(), 0);
+        Check.due("of seven falls()", x.falls(), -1);
+        Check.due("of seven rule(1, 9)", x.rule(1, 9), 7);
+        Check.due("of seven tax()", x.tax(), 5);
+        Check.due("of seven day()", x.day(), 7);
+        Check.due("of seven governs()", x.governs(), 0);
+        Check.due("of seven person(6, 5)", x.person(6, 5), 1);
+        Check.due("of seven person(0, 4)", x.person(0, 4), 1);
     }
 
     private static void rests(VoteAgainst x, int a, int b, int c, int what) {

@@ -8,6 +8,8 @@ public final class JudgedTest {
         judged("tax;", -1, -1, 0);
         judged("day;", -1, -1, 0);
         judged("tax;day;", -1, 1, 1);
+        judged("gift a b;tax;day;", -1, -1, 0);
+        judged("gift b a;tax;day;", -1, 2, 1);
         judged("cast b a;cast a b;tax;", 2, 0, 2);
         judged("cast b a;cast b c;", 1, 0, 1);
         judged("gift a b;die a;gift a b;gift b a;", 2, 1, 1);

@@ -84,6 +84,10 @@ public final class PeopleTest {
             old.die(person);
         }
         Check.due("nobody", old.governs(), -1);
+        VoteAgainst late = Check.told("person a plain age 2 envy 1;person b plain age 3 envy 1;");
+        Check.due("older by a year", late.governs(), 1);
+        late.cast(1, 0);
+        Check.due("cast by b", late.person(1, 5), 1);
         VoteAgainst young = Check.told("person a plain age 3 envy 1;person b plain age 2 envy 1;person c plain age 2 envy 1;ties young;");
         Check.due("of equal ones the youngest, the first", young.governs(), 1);
         young.cast(0, 1);

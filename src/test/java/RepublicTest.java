@@ -180,6 +180,7 @@ public final class RepublicTest {
         Check.due("hear", x.hear(3, true), true);
         Check.due("years", Check.years(x, "day;"), 0);
         Check.due("mark", x.mark(2, false), true);
+        Check.due("mark", x.mark(0, false), true);
         String text = "person z plain age 1 envy 1;person y hot age 2 envy 2;bar 4;dead lapse;ties young;";
         Check.due("a fault", Check.republic(x, text + "bar 5;"), Check.fault(3, text.length()));
         int[] want = {1, 3, 0, 0, 1, 1, 1, 0, 0, 1, 1, 1, 0};
@@ -196,6 +197,11 @@ public final class RepublicTest {
         }
         Check.due("undo()", x.undo(), false);
         Check.due("mark(2, true)", x.mark(2, true), false);
+        Check.due("mark(0, true)", x.mark(0, true), false);
+        x.cast(0, 1);
+        Check.due("the same once more", Check.republic(x, "person b plain age 1 envy 1;person a hot age 1 envy 1;"), 0);
+        Check.due("none cast", x.against(0, 1) + x.count(8), 0);
+        Check.due("one vote", x.person(0, 3), 1);
         Check.due("bars(0)", x.bars(0), 9);
         Check.due("an empty one", x.republic(), 0);
         Check.due("nobody", x.count(0), 0);

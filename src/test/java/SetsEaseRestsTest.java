@@ -25,6 +25,10 @@ public final class SetsEaseRestsTest {
         due(x, 0, 1, 7, 0, 4 + 8 + 16);
         due(x, 0, 2, 0, -1, -1);
         due(x, 1, 0, 8, 0, 4 + 8 + 16);
+        x.cast(2, 0);
+        // Against a one vote: b governs; by one against b it is c.
+        due(x, 1, 2, 7, 0, 1 + 8 + 16);
+        x.undo();
         x.cast(2, 1);
         due(x, 0, 2, 7, 0, 2 + 8 + 16);
         x.undo();
@@ -38,7 +42,7 @@ public final class SetsEaseRestsTest {
         // d has two votes, yet casts one: then each has one, and the oldest governs.
         due(x, 0, 1, 0, -1, -1);
         due(x, 1, 0, 2, 0, 8);
-        int[][] others = {{0, 0, 0}, {4, 0, 0}, {0, 4, 0}, {-1, 0, 0}, {0, -1, 0}, {5, 0, 0}, {0, 5, 0}, {0, 1, 3}, {0, 1, -1},
+        int[][] others = {{0, 0, 0}, {4, 0, 0}, {0, 4, 0}, {-1, 0, 0}, {0, -1, 0}, {5, 0, 0}, {0, 5, 0}, {1, 0, 3}, {1, 0, -1},
             {Integer.MIN_VALUE, Integer.MAX_VALUE, 0}, {40, 0, 0}, {0, 33, 0}};
         for (int[] other : others) {
             Check.due("sets(" + other[0] + ", " + other[1] + ", " + other[2] + ")", x.sets(other[0], other[1], other[2]), -1);
