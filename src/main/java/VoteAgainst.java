@@ -996,8 +996,12 @@ public final class VoteAgainst {
 
         /** Whether the second one of the two was taken is the value then, as 1 or 0. */
         boolean takeEither(int first, int second) {
+            if (tape.token != first && tape.token != second) {
+                return fail(MISPLACED);
+            }
             value = tape.token == second ? 1 : 0;
-            return take(value == 1 ? second : first);
+            tape.lookAtNext();
+            return true;
         }
 
         /** The number is the value then. */

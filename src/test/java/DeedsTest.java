@@ -124,6 +124,19 @@ public final class DeedsTest {
         x.tax();
         Check.due("grows", x.grudge(1, 0), 7);
         Check.due("no law of ease", x.gift(0, 1), 5);
+        Check.due("both, the second one behind", Check.republic(x, THREE + "eases 3;grows 1;"), 0);
+        Check.due("the second one alone", Check.republic(x, THREE + "grows 5;"), 0);
+        x.tax();
+        Check.due("grows 5", x.grudge(1, 0), 5);
+        Check.due("a fault behind an operator", Check.republic(x, "grows 1 * ;"), Check.fault(1, 10));
+        Check.due("a law behind it", Check.republic(x, THREE + "grows 3;"), 0);
+        x.tax();
+        Check.due("grows 3", x.grudge(1, 0), 3);
+        for (int i = 0; i < 4; i++) {
+            Check.due("a long one", Check.republic(x, THREE + "grows 0" + "+1".repeat(i + 300) + "-" + (i + 298) + ";"), 0);
+            x.tax();
+            Check.due("grows 2", x.grudge(1, 0), 2);
+        }
     }
 
     private static void gift() {

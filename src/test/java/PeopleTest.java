@@ -106,6 +106,9 @@ public final class PeopleTest {
             Check.due("count(" + what + ")", x.count(what), first[what]);
         }
         Check.due("count(-1)", x.count(-1), -1);
+        VoteAgainst plain = Check.told("dead stay;ties old;");
+        Check.due("dead stay", plain.count(2), 0);
+        Check.due("ties old", plain.count(3), 0);
         Check.due("years()", x.years(), 0);
         x.hear(0, false);
         Check.due("a casts against b", x.day(), 1);
