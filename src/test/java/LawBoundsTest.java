@@ -7,6 +7,7 @@ public final class LawBoundsTest {
         atLeastOneTest();
         oneComparison();
         depth();
+        notOfAPart();
         tooDeep();
         whatIsNotZero();
         wraps();
@@ -69,12 +70,38 @@ public final class LawBoundsTest {
         Check.due("within 4 nots", grown(0, "not not not not 3"), 1);
         Check.due("within 2 of each", grown(0, "not(not(3))"), 1);
         Check.due("one behind another", grown(0, "((((1))))+((((1))))*((((3))))-not not not not 5"), 3);
+        Check.due("nots behind one another", grown(0, "not not not not 1+not not not not 1+((((1))))"), 3);
+        Check.due("both behind one another", grown(0, "not(not(1))+not(not(1))+not not not not 1"), 3);
         Check.due("of eases", eased(9, "((((3))))"), 6);
         for (String part : new String[] {"1", "has", "not 1", "(1)", "not", "("}) {
             Check.wrongRepublic(5, "grows (((((^" + part + ")))));");
             Check.wrongRepublic(5, "grows not not not not not ^" + part + ";");
             Check.wrongRepublic(5, "grows (not(not(^" + part + "))));");
             Check.wrongRepublic(5, "eases 1*((1)+(((not ^" + part + "))));");
+        }
+    }
+
+    private static void notOfAPart() {
+        Check.says("PART: a NUMBER, a fact, not PART, ( E )");
+        Check.due("not of a number alone", grown(0, "not 0+2"), 3);
+        Check.due("not of brackets alone", grown(0, "not(0)+2"), 3);
+        Check.due("not of a product's first part", grown(0, "not 0*3"), 3);
+        Check.due("not of a sum's last part", grown(0, "2+not 0"), 3);
+        Check.due("brackets first", grown(0, "(1+2)*3"), 9);
+        Check.wrongRepublic(1, "grows (1^;");
+        Check.wrongRepublic(1, "grows ((1)^;");
+        Check.wrongRepublic(1, "grows (1)^);");
+        Check.wrongRepublic(1, "grows (^);");
+        Check.wrongRepublic(1, "grows ^);");
+        Check.wrongRepublic(1, "grows not^;");
+        Check.wrongRepublic(1, "grows 1 ^not 1;");
+        Check.wrongRepublic(1, "grows ^-1;");
+        VoteAgainst x = new VoteAgainst();
+        for (String open : new String[] {"grows ((((", "grows not not not not ", "grows 1 and 1<1+1*", "eases 1 + not ("}) {
+            Check.due("a fault of " + open, Check.republic(x, open), Check.fault(1, open.length()));
+            Check.due("the next law is whole", Check.republic(x, Check.people(2, "plain") + "grows ((((3))));"), 0);
+            x.tax();
+            Check.due("grudge behind " + open, x.grudge(1, 0), 3);
         }
     }
 
@@ -102,6 +129,12 @@ public final class LawBoundsTest {
         }
         Check.due("not 0", grown(0, "not 0"), 1);
         Check.due("0 or 0", grown(0, "0 or 0"), 0);
+        for (String no : new String[] {"not 7", "(7 and 0)", "(0 and 7)", "(0 or 0)", "(7<7)", "(8<7)", "(7=8)"}) {
+            Check.due(no + " is 0, no less", grown(0, "3+" + no), 3);
+        }
+        for (String yes : new String[] {"not 0", "(7 and 8)", "(0 or 8)", "(8 or 0)", "(7<9)", "(7=7)"}) {
+            Check.due(yes + " is 1, no more", grown(0, "3+" + yes), 4);
+        }
     }
 
     private static void wraps() {
@@ -129,6 +162,19 @@ public final class LawBoundsTest {
             VoteAgainst x = Check.told(Check.people(2, "plain") + "grudge b a " + grudge + ";");
             Check.due("a gift of " + grudge, x.gift(0, 1), Math.max(0, grudge - 2));
         }
+        VoteAgainst x = Check.told(Check.people(2, "plain") + "grows 5;eases 5;");
+        Check.due("a republic without laws behind one with both", Check.republic(x, Check.people(2, "plain") + "grudge b a 3;"), 0);
+        x.tax();
+        Check.due("1", x.grudge(1, 0), 4);
+        Check.due("2", x.gift(0, 1), 2);
+        Check.due("with grows alone", Check.republic(x, Check.people(2, "plain") + "grows 6;"), 0);
+        x.tax();
+        Check.due("6", x.grudge(1, 0), 6);
+        Check.due("2", x.gift(0, 1), 4);
+        Check.due("with eases alone", Check.republic(x, Check.people(2, "plain") + "eases 6;grudge b a 7;"), 0);
+        x.tax();
+        Check.due("1", x.grudge(1, 0), 8);
+        Check.due("6", x.gift(0, 1), 2);
     }
 
     private static void growsCut() {

@@ -7,6 +7,7 @@ public final class MarkBoundsTest {
         noneSuch();
         nothingOnIt();
         hold();
+        holdWhatIsQuiet();
         nothingCanBeUndone();
         fullPast();
         noMarkIsThere();
@@ -94,6 +95,32 @@ public final class MarkBoundsTest {
         x.mark(2, true);
         Check.due("once more", x.count(9), 40);
         Check.due("it is not eased by what was behind it", x.hear(9, true), false);
+    }
+
+    private static void holdWhatIsQuiet() {
+        Check.says("the YEARS, what is QUIET");
+        VoteAgainst x = Check.told(THREE);
+        x.mark(0, false);
+        x.hear(3, false);
+        x.mark(1, false);
+        x.hear(5, true);
+        due(x, "now", 2, 4, 5);
+        x.mark(1, true);
+        due(x, "mark 1", 1, 4, 9);
+        x.mark(0, true);
+        due(x, "mark 0", 0, 1, 9);
+        x.mark(1, true);
+        due(x, "mark 1 again", 1, 4, 9);
+        for (int heard = 1; heard < 8; heard++) {
+            Check.due("there is room", x.hear(9, true), true);
+        }
+        Check.due("then there is none", x.hear(9, true), false);
+    }
+
+    private static void due(VoteAgainst x, String when, int heard, int least, int greatest) {
+        Check.due(when + ": heard", x.count(10), heard);
+        Check.due(when + ": the least bar", x.bars(1), least);
+        Check.due(when + ": the greatest bar", x.bars(2), greatest);
     }
 
     private static void nothingCanBeUndone() {

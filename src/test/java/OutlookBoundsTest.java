@@ -148,6 +148,16 @@ public final class OutlookBoundsTest {
         }
         Check.due("five against b, and b wins of equal ones", young.bears(0), 4);
         Check.due("none", Check.told(THREE).bears(0), 0);
+        VoteAgainst three = Check.told(Check.people(5, "plain"));
+        three.cast(3, 1);
+        three.cast(4, 1);
+        three.die(3);
+        three.die(4);
+        Check.due("two against b, none against c", three.bears(0), 0);
+        three.cast(1, 2);
+        Check.due("two against b, one against c", three.bears(0), 1);
+        three.cast(0, 2);
+        Check.due("two against each", three.bears(0), 2);
         Check.due("none, of an older one", Check.told("person a plain age 1 envy 1;person b plain age 9 envy 1;").bears(1), 0);
     }
 

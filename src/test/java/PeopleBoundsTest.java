@@ -190,6 +190,11 @@ public final class PeopleBoundsTest {
         due(x, "nobody is left", 0, 0, 0, 1);
         x.day();
         Check.due("the day", x.count(4), 1);
+        VoteAgainst votes = Check.told(Check.people(7, "plain"));
+        for (int person = 0; person < 7; person++) {
+            votes.cast(person, person == 0 ? 1 : 0);
+            due(votes, "votes of 0 to " + person, 127, 6 - person, 0, person + 1);
+        }
     }
 
     private static void due(VoteAgainst x, String when, int alive, int votes, int grudges, int casts) {

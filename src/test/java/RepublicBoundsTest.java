@@ -357,6 +357,12 @@ public final class RepublicBoundsTest {
         Check.due("another one now", Check.seen(x).equals(first), false);
         Check.due("the same republic", Check.republic(x, text), 0);
         Check.due("as at first", Check.seen(x).equals(first), true);
+        int[] counts = {2, 7, 0, 0, 0, 3, 2, 3, 0, 0, 0, 0, 0};
+        for (int what = 0; what < counts.length; what++) {
+            Check.due("count(" + what + ")", x.count(what), counts[what]);
+        }
+        Check.due("bars(0)", x.bars(0), 9);
+        Check.due("judged(1)", x.judged(1), -1);
         Check.due("nothing can be undone", x.undo(), false);
         for (int mark = 0; mark < 4; mark++) {
             Check.due("mark " + mark, x.mark(mark, true), false);

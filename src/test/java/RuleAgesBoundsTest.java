@@ -15,6 +15,7 @@ public final class RuleAgesBoundsTest {
         agesOfNobody();
         agesDraws();
         agesGiftsThatCannotBe();
+        agesOfOneDay();
         agesNobodyGoverns();
         allIsAsAhead();
         Check.end();
@@ -130,13 +131,16 @@ public final class RuleAgesBoundsTest {
         }
     }
 
-    /** The draws by great numbers that can't wrap: of one alone two draws below 1, one below 2, one below 20, till he dies. */
+    /** By great numbers, which can't wrap. */
+    private static BigInteger drawn(BigInteger g) {
+        return g.multiply(BigInteger.valueOf(1103515245)).add(BigInteger.valueOf(12345)).mod(BigInteger.valueOf(2147483648L));
+    }
+
+    /** Of one alone there are two draws below 1, one below 2, one below 20 each day, till he dies. */
     private static int dayOfDeath(int seed) {
         BigInteger g = BigInteger.valueOf(seed);
         for (int day = 1; day <= 99; day++) {
-            for (int draw = 0; draw < 4; draw++) {
-                g = g.multiply(BigInteger.valueOf(1103515245)).add(BigInteger.valueOf(12345)).mod(BigInteger.valueOf(2147483648L));
-            }
+            g = drawn(drawn(drawn(drawn(g))));
             if (g.divide(BigInteger.valueOf(65536)).intValue() % 20 == 0) {
                 return day;
             }
@@ -174,7 +178,37 @@ public final class RuleAgesBoundsTest {
             int alive = x.ages(seed, 99, 2);
             Check.due("a stays dead, seed " + seed, alive == 0 || alive == 2, true);
             Check.due("nobody governs, if b dies, seed " + seed, x.ages(seed, 99, 1), alive == 0 ? 1 : 0);
+            // The tax of a hermit can't be: on one day nobody's grudge grows to 7.
+            VoteAgainst hermit = Check.told("person a hermit age 9 envy 1;person b plain age 8 envy 1;grudge b a 6;");
+            Check.due("no tax, seed " + seed, hermit.ages(seed, 1, 0), 0);
         }
+    }
+
+    /** A day of a, who governs, and b, whose grudge of 6 a tax makes 7, and a gift of a's 4 ahead of it. */
+    private static void agesOfOneDay() {
+        Check.says("a DRAW below these, another one: that GIFT, if it can be; a DRAW below 2: 0: TAX, if it can be");
+        int votes = 0;
+        for (int seed = 0; seed < 300; seed++) {
+            int giver = draw(seed, 1) % 2;
+            boolean isGift = giver == 0 && draw(seed, 2) % 2 == 1;
+            boolean isTax = draw(seed, 3) % 2 == 0;
+            boolean isDeath = draw(seed, 4) % 20 == 0;
+            int want = isTax && !isGift && !isDeath ? 1 : 0;
+            VoteAgainst x = Check.told(TWO + "grudge b a 6;");
+            Check.due("votes, seed " + seed, x.ages(seed, 1, 0), want);
+            Check.due("turns, seed " + seed, x.ages(seed, 1, 1), want == 1 || isDeath && giver == 0 ? 1 : 0);
+            Check.due("alive, seed " + seed, x.ages(seed, 1, 2), isDeath ? 2 - giver : 3);
+            votes += want;
+        }
+        Check.due("there were votes", votes > 0, true);
+    }
+
+    private static int draw(int seed, int number) {
+        BigInteger g = BigInteger.valueOf(seed);
+        for (int draw = 0; draw < number; draw++) {
+            g = drawn(g);
+        }
+        return g.divide(BigInteger.valueOf(65536)).intValue();
     }
 
     private static void agesNobodyGoverns() {

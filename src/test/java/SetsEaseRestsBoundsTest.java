@@ -88,6 +88,9 @@ public final class SetsEaseRestsBoundsTest {
         x.cast(1, 0);
         // Against a and b one each: c governs; by one against c it is d.
         due(x, "all but the empty one of e, f, g", 2, 3, 7, 0, 16 + 32 + 64);
+        VoteAgainst first = Check.told(THREE);
+        first.cast(2, 0);
+        due(first, "a alone", 1, 2, 1, 1, 1);
         String before = Check.seen(x);
         x.sets(2, 3, 0);
         Check.due("all is as ahead", Check.seen(x).equals(before), true);

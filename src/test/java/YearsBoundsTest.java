@@ -93,6 +93,10 @@ public final class YearsBoundsTest {
         VoteAgainst hermit = told("person a hermit age 9 envy 1;person b plain age 8 envy 1;grudge b a 6;", "tax;day;");
         Check.due("the tax", hermit.judged(0), 0);
         Check.due("no turn", hermit.judged(1), -1);
+        String plain = TWO + "grudge b a 6;";
+        Check.due("a tax that can be", told(plain, "tax;day;").judged(1), 1);
+        Check.due("a gift that can be", told(plain, "tax;gift a b;day;").judged(1), -1);
+        Check.due("the other one's gift", told(plain, "tax;gift b a;day;").judged(1), 2);
         Check.due("the hermit", hermit.judged(2), 0);
     }
 
