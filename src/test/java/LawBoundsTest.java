@@ -6,6 +6,7 @@ public final class LawBoundsTest {
     public static void main(String[] args) {
         atLeastOneTest();
         oneComparison();
+        sumsAndProducts();
         depth();
         notOfAPart();
         tooDeep();
@@ -62,6 +63,20 @@ public final class LawBoundsTest {
         Check.due("not the same", grown(0, "2 = 3"), 0);
         Check.due("one in each test", grown(0, "1 < 2 and 3 = 3"), 1);
         Check.due("one within another", grown(0, "(1 < 2) < 3"), 1);
+    }
+
+    private static void sumsAndProducts() {
+        Check.says("SUM: PRODUCT { + or - PRODUCT }; PRODUCT: PART { * PART }");
+        for (String operator : new String[] {"+", "-", "*"}) {
+            Check.wrongRepublic(1, "grows ^" + operator + "1;");
+            Check.wrongRepublic(1, "grows 1" + operator + "^;");
+            Check.wrongRepublic(1, "grows 1" + operator + "^" + operator + "1;");
+            Check.wrongRepublic(1, "grows 1" + operator + "^");
+        }
+        Check.due("from the left", grown(0, "9-3-2"), 4);
+        Check.due("products first", grown(0, "9-2*3+1"), 4);
+        String ones = "+1".repeat(450);
+        Check.due("as many as there is room for", grown(0, "0" + ones + "-447"), 3);
     }
 
     private static void depth() {
@@ -171,6 +186,12 @@ public final class LawBoundsTest {
         x.tax();
         Check.due("6", x.grudge(1, 0), 6);
         Check.due("2", x.gift(0, 1), 4);
+        for (String both : new String[] {"grows 4;eases 3;", "eases 3;grows 4;"}) {
+            Check.due("with " + both, Check.republic(x, Check.people(2, "plain") + both), 0);
+            x.tax();
+            Check.due("4 of " + both, x.grudge(1, 0), 4);
+            Check.due("3 of " + both, x.gift(0, 1), 1);
+        }
         Check.due("with eases alone", Check.republic(x, Check.people(2, "plain") + "eases 6;grudge b a 7;"), 0);
         x.tax();
         Check.due("1", x.grudge(1, 0), 8);

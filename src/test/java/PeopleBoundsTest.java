@@ -16,6 +16,7 @@ public final class PeopleBoundsTest {
         nobody();
         countOthers();
         counts();
+        fullCounts();
         lastCall();
         Check.end();
     }
@@ -202,6 +203,26 @@ public final class PeopleBoundsTest {
         Check.due(when + ": votes", x.count(6), votes);
         Check.due(when + ": grudges", x.count(7), grudges);
         Check.due(when + ": casts", x.count(8), casts);
+    }
+
+    private static void fullCounts() {
+        Check.says("9: lines of the YEARS, 10: QUIET, 11: what can be undone, 12: signs on the TAPE");
+        VoteAgainst x = Check.told(Check.people(7, "plain"));
+        Check.due("years", Check.years(x, "day;".repeat(40)), 0);
+        for (int i = 0; i < 20; i++) {
+            x.hear(5, true);
+            x.day();
+        }
+        Check.feed(x, " ".repeat(1100));
+        int[] full = {7, 7, 0, 0, 20, 127, 7, 0, 0, 40, 8, 16, 1000};
+        for (int what = 0; what < full.length; what++) {
+            Check.due("full count(" + what + ")", x.count(what), full[what]);
+        }
+        VoteAgainst empty = Check.told("");
+        int[] none = {0, 7, 0, 0, 0, 0, 0, 0, 0, 0, 0, 0, 0};
+        for (int what = 0; what < none.length; what++) {
+            Check.due("empty count(" + what + ")", empty.count(what), none[what]);
+        }
     }
 
     private static void lastCall() {

@@ -19,8 +19,10 @@ public final class RepublicBoundsTest {
         bar();
         deadAndTies();
         onceEach();
+        aSecondTime();
         names();
         noTwoAlike();
+        place();
         end();
         firstTokenLeastKind();
         misplaced();
@@ -37,6 +39,9 @@ public final class RepublicBoundsTest {
     }
 
     private static void atFirst() {
+        Check.says("`VoteAgainst()`: Nobody, bar 7.");
+        Check.due("people", new VoteAgainst().count(0), 0);
+        Check.due("bar", new VoteAgainst().count(1), 7);
         Check.says("At first: nobody, bar 7.");
         VoteAgainst x = new VoteAgainst();
         Check.due("people", x.count(0), 0);
@@ -183,15 +188,26 @@ public final class RepublicBoundsTest {
         String[] lines = {"bar 1", "dead stay", "ties old", "grows 1", "eases 1"};
         Check.told(String.join(";", lines) + ";");
         for (String line : lines) {
-            Check.wrongRepublic(3, String.join(";", lines) + ";^" + line + ";");
+            Check.told(line + ";");
             Check.wrongRepublic(3, line + ";^" + line + ";");
-            Check.wrongRepublic(3, line + ";" + TWO + "^" + line.substring(0, line.indexOf(' ')));
         }
         VoteAgainst x = Check.told("bar 1;");
         Check.due("in another republic once more", Check.republic(x, "bar 2;"), 0);
         Check.due("behind a fault once more", Check.republic(x, "bar 3;bar 3;"), Check.fault(3, 6));
         Check.due("and again", Check.republic(x, "bar 4;"), 0);
         Check.due("the bar", x.count(1), 4);
+    }
+
+    private static void aSecondTime() {
+        Check.says("bar, dead, ties, grows, eases a second time");
+        String[] lines = {"bar 1", "dead stay", "ties old", "grows 1", "eases 1"};
+        for (String line : lines) {
+            String word = line.substring(0, line.indexOf(' '));
+            Check.wrongRepublic(3, String.join(";", lines) + ";^" + line + ";");
+            Check.wrongRepublic(3, line + ";" + TWO + "^" + word);
+            Check.wrongRepublic(3, line + ";^" + word + " ?");
+            Check.wrongRepublic(1, line + " ^" + word);
+        }
     }
 
     private static void names() {
@@ -225,6 +241,19 @@ public final class RepublicBoundsTest {
         Check.due("heir of aaaaaaab", x.person(3, 6), 4);
         Check.due("heir of zzzzzzz", x.person(6, 6), 5);
         Check.due("heir of a", x.person(0, 6), 1);
+    }
+
+    private static void place() {
+        Check.says("FAULTS, kind + 16 * the place (from 0) of a token");
+        Check.due("kind 1, place 0", Check.republic(new VoteAgainst(), "?"), 1);
+        Check.due("kind 1, place 1", Check.republic(new VoteAgainst(), " ?"), 17);
+        Check.due("kind 2, place 7", Check.republic(new VoteAgainst(), "grudge a"), 114);
+        Check.due("kind 3, place 6", Check.republic(new VoteAgainst(), "bar 1;bar"), 99);
+        Check.due("kind 4, place 4", Check.republic(new VoteAgainst(), "bar 0"), 68);
+        Check.due("kind 5, place 11", Check.republic(new VoteAgainst(), "grows (((((1"), 181);
+        Check.due("kind 1, place 999", Check.republic(new VoteAgainst(), " ".repeat(999) + "?"), 15985);
+        Check.due("kind 1, place 1,000", Check.republic(new VoteAgainst(), " ".repeat(997) + "bar"), 16001);
+        Check.due("of years", Check.years(new VoteAgainst(), "day; ?"), 81);
     }
 
     private static void end() {

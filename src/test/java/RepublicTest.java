@@ -14,11 +14,8 @@ public final class RepublicTest {
         Check.end();
     }
 
-    /** A text with ^ ahead of the token that is wrong. */
     private static void wrong(int kind, String marked) {
-        int place = marked.indexOf('^');
-        String text = marked.substring(0, place) + marked.substring(place + 1);
-        Check.due("republic of " + text, Check.republic(new VoteAgainst(), text), Check.fault(kind, place));
+        Check.wrongRepublic(kind, marked);
     }
 
     private static void fine(String text) {

@@ -17,6 +17,7 @@ public final class RuleAgesBoundsTest {
         agesGiftsThatCannotBe();
         agesOfOneDay();
         agesNobodyGoverns();
+        agesAliveAtLast();
         allIsAsAhead();
         Check.end();
     }
@@ -226,6 +227,22 @@ public final class RuleAgesBoundsTest {
             both += isTwice ? 1 : 0;
         }
         Check.due("a dies, then b", both > 0, true);
+    }
+
+    private static void agesAliveAtLast() {
+        Check.says("who are alive at last, as bits.");
+        // Of seven saints: each draw of 0 below 20 is the death of the first draw's one.
+        for (int seed = 0; seed < 100; seed++) {
+            VoteAgainst x = Check.told(Check.people(7, "saint"));
+            int alive = 127;
+            for (int day = 1; day <= 99; day++) {
+                if (draw(seed, 4 * day) % 20 == 0) {
+                    alive &= ~(1 << draw(seed, 4 * day - 3) % 7);
+                }
+            }
+            Check.due("alive of seven, seed " + seed, x.ages(seed, 99, 2), alive);
+            Check.due("they all live now", x.count(5), 127);
+        }
     }
 
     private static void allIsAsAhead() {

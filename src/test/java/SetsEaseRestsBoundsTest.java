@@ -4,6 +4,7 @@ import java.util.NoSuchElementException;
 public final class SetsEaseRestsBoundsTest {
     private static final String THREE = Check.people(3, "plain");
     private static final int[] NOBODY = {-1, 3, 6, 7, 8, 31, 32, 33, 64, Integer.MIN_VALUE, Integer.MAX_VALUE};
+    private static final int[] OTHERS = {-1, 10, -2, 11, Integer.MIN_VALUE, Integer.MAX_VALUE};
     private static final int THROWN = -99;
 
     public static void main(String[] args) {
@@ -16,7 +17,9 @@ public final class SetsEaseRestsBoundsTest {
         easeAboveZero();
         easeMost();
         restsOfAll();
-        restsOthers();
+        restsKeeps();
+        restsCasts();
+        restsLoses();
         restsNoneSuch();
         Check.end();
     }
@@ -161,13 +164,35 @@ public final class SetsEaseRestsBoundsTest {
         }
     }
 
-    private static void restsOthers() {
-        Check.says("NoSuchElementException: others, none such.");
-        for (int other : new int[] {-1, 10, -2, 11, Integer.MIN_VALUE, Integer.MAX_VALUE}) {
+    private static void restsKeeps() {
+        Check.says("both keep: each gets so much (0 to 9)");
+        Check.due("0", answer(0, 0, 0, -1), 4);
+        Check.due("9", answer(9, 0, 0, -1), 2);
+        for (int other : OTHERS) {
             for (int what = -1; what < 4; what++) {
-                Check.due("keeps " + other, answer(other, 5, 5, what), THROWN);
-                Check.due("casts " + other, answer(5, other, 5, what), THROWN);
-                Check.due("loses " + other, answer(5, 5, other, what), THROWN);
+                Check.due("keeps " + other + ", what " + what, answer(other, 5, 5, what), THROWN);
+            }
+        }
+    }
+
+    private static void restsCasts() {
+        Check.says("one casts: he gets so much (0 to 9)");
+        Check.due("0", answer(1, 0, 0, -1), 2);
+        Check.due("9", answer(1, 9, 0, -1), 3);
+        for (int other : OTHERS) {
+            for (int what = -1; what < 4; what++) {
+                Check.due("casts " + other + ", what " + what, answer(5, other, 5, what), THROWN);
+            }
+        }
+    }
+
+    private static void restsLoses() {
+        Check.says("the other one loses so much (0 to 9); both cast: each loses that");
+        Check.due("0", answer(1, 1, 0, -1), 4);
+        Check.due("9", answer(1, 1, 9, -1), 4);
+        for (int other : OTHERS) {
+            for (int what = -1; what < 4; what++) {
+                Check.due("loses " + other + ", what " + what, answer(5, 5, other, what), THROWN);
             }
         }
     }

@@ -29,6 +29,14 @@ public final class TapeBoundsTest {
         Check.due("a full tape is read", x.republic(), 0);
         Check.due("then there is room again", Check.feed(x, " ".repeat(1000)), 1000);
         Check.due("it is full again", x.feed(0, 0, ' '), 1000);
+        // Tokens that end where the tape does, most of them the beginning of a longer one.
+        for (String last : new String[] {"p", "pers", "bar", "grow", "ea", "not", "a", "abcdefgh", "abcdefghi", "1", "9999", "00000", "(", ";", "?"}) {
+            String text = " ".repeat(1000 - last.length()) + last;
+            int place = last.equals("bar") ? 1000 : 1000 - last.length();
+            Check.due("a full tape with " + last, Check.republic(new VoteAgainst(), text), Check.fault(1, place));
+            Check.due("years of it", Check.years(new VoteAgainst(), text), Check.fault(1, 1000 - last.length()));
+        }
+        Check.due("a full tape of lines", Check.told("bar 3;" + " ".repeat(987) + "grows1;").count(1), 3);
     }
 
     private static void whatIsBeyondIsLeftOut() {

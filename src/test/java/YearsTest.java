@@ -44,9 +44,7 @@ public final class YearsTest {
     }
 
     private static void wrong(int kind, String marked) {
-        int place = marked.indexOf('^');
-        String text = marked.substring(0, place) + marked.substring(place + 1);
-        Check.due("years of " + text, Check.years(Check.told(TWO), text), Check.fault(kind, place));
+        Check.wrongYears(kind, TWO, marked);
     }
 
     private static void allStays() {
